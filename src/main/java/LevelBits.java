@@ -35,7 +35,6 @@ public final class LevelBits {
     private static final int STEADY_STEP = 50;
 
     private final byte[] tape = new byte[MOST_BYTES];
-    private final Reader reader = new Reader(tape);
     private final Run run = new Run();
     private final Image[] images = {new Image(), new Image()};
     private final Weights weights = new Weights();
@@ -44,6 +43,7 @@ public final class LevelBits {
     private final Core two = new Core();
     private Plan plan = new Plan();
     private Plan spare = new Plan();
+    private final Reader reader = new Reader(tape, spare);
     private boolean hasText;
     private int taped;
     private int seeded = 1;
@@ -765,7 +765,7 @@ public final class LevelBits {
         private static final int TOO_MANY = 4;
 
         private final byte[] tape;
-        private Plan plan = new Plan();
+        private Plan plan;
         private int end;
         private int at;
         /** The token that comes next: its kind, its first byte's place, its word, whole or mark. */
@@ -777,8 +777,9 @@ public final class LevelBits {
         private int fault;
         private int place;
 
-        private Reader(byte[] tape) {
+        private Reader(byte[] tape, Plan plan) {
             this.tape = tape;
+            this.plan = plan;
         }
 
         private boolean readText(int n, Plan into) {
