@@ -969,9 +969,9 @@ public final class LevelBits {
             start = at;
             if (at >= end) {
                 kind = END;
-            } else if (isLetter(tape[at])) {
+            } else if (tape[at] >= 'a' && tape[at] <= 'z') {
                 scanWord();
-            } else if (isDigit(tape[at])) {
+            } else if (tape[at] >= '0' && tape[at] <= '9') {
                 scanWhole();
             } else {
                 value = tape[at];
@@ -983,7 +983,7 @@ public final class LevelBits {
         private void scanWord() {
             int letters = 0;
             value = 0;
-            while (at < end && isLetter(tape[at])) {
+            while (at < end && tape[at] >= 'a' && tape[at] <= 'z') {
                 if (letters < MOST_LETTERS) {
                     value |= (tape[at] - 'a' + 1) << 5 * letters;
                 }
@@ -996,7 +996,7 @@ public final class LevelBits {
         private void scanWhole() {
             int digits = 0;
             value = 0;
-            while (at < end && isDigit(tape[at])) {
+            while (at < end && tape[at] >= '0' && tape[at] <= '9') {
                 if (digits < MOST_DIGITS) {
                     value = value * 10 + tape[at] - '0';
                 }
@@ -1004,14 +1004,6 @@ public final class LevelBits {
                 at++;
             }
             kind = digits > MOST_DIGITS ? BAD : WHOLE;
-        }
-
-        private static boolean isLetter(byte b) {
-            return b >= 'a' && b <= 'z';
-        }
-
-        private static boolean isDigit(byte b) {
-            return b >= '0' && b <= '9';
         }
     }
 

@@ -410,6 +410,8 @@ public final class PromisesTest {
         CHECK.left(x, "10 65,536", x.seed(65536), false, 2);
         CHECK.left(x, "10 0", x.seed(0), false, 2);
         CHECK.left(x, "10 -1", x.seed(-1), false, 2);
+        CHECK.left(x, "10 1", x.seed(1), true, 0);
+        x.seed(65535);
         Check.text(x, PLAIN);
         x.begin(1, 0);
         CHECK.due("10 told", x.now(3), 65535);
@@ -691,6 +693,9 @@ public final class PromisesTest {
         CHECK.left(x, "21 most 0", x.tone(0, 7, 0), NONE, 2);
         CHECK.left(x, "21 most 201", x.tone(0, 7, 201), NONE, 2);
         CHECK.left(x, "21 stretch", x.tone(7, 6, 5), NONE, 2);
+        // clocks 4 .. 7 are 1 1 -1 1: parts 1/3 1/2 1/1
+        CHECK.left(x, "21 part of it", x.tone(4, 7, 2), 2, 0);
+        CHECK.left(x, "21 part of it, all lags", x.tone(4, 7, 9), 3, 0);
     }
 
     private static void nth() {
@@ -955,6 +960,10 @@ public final class PromisesTest {
         CHECK.left(y, "31 bound 2,000", y.steady(2), 100, 0);
         // at 250 from -250 to 1,000, at 300 from -100 to 1,200
         CHECK.left(y, "31 without noise", y.steady(3), 250, 0);
+        // at 650 the first clip is in the 1,000th clock; at 650 in the 1,001st, at 700 sooner
+        LevelBits z = Check.of("loop a by 24 18 bound 5091 three; loop b by 17 31 bound 9061");
+        CHECK.left(z, "31 the last clock counts", z.steady(0), 600, 0);
+        CHECK.left(z, "31 the one behind it doesn't", z.steady(1), 650, 0);
     }
 
     private static void apart() {
