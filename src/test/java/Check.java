@@ -43,6 +43,49 @@ final class Check {
         left(x, call, got ? 1 : 0, want ? 1 : 0, trouble);
     }
 
+    /** The same, of a call of which the place is due, too. */
+    void left(LevelBits x, String call, long got, long want, int trouble, int where) {
+        due(call, got, want);
+        due(call + ": trouble", x.trouble(), trouble);
+        due(call + ": where", x.where(), where);
+    }
+
+    void same(String call, String got, String want) {
+        if (!got.equals(want)) {
+            int at = 0;
+            while (at < got.length() && at < want.length() && got.charAt(at) == want.charAt(at)) {
+                at++;
+            }
+            int from = Math.max(0, at - 60);
+            due(call + " left '.." + got.substring(from, Math.min(got.length(), at + 30)) + "', due is '.."
+                + want.substring(from, Math.min(want.length(), at + 30)) + "'", false, true);
+        }
+    }
+
+    /** The text is refused by 4, with this fault at this place, and the tape is empty then. */
+    void faulty(LevelBits x, String s, int number, int at) {
+        due("text '" + s + "'", text(x, s), NONE);
+        due("trouble of '" + s + "'", x.trouble(), 4);
+        due("fault of '" + s + "'", x.fault(), number);
+        due("where of '" + s + "'", x.where(), at);
+        due("bytes behind '" + s + "'", x.bytes(), 0);
+    }
+
+    /** The fault stands where the sign | does, which isn't of the text. */
+    void marked(int number, String s) {
+        int at = s.indexOf('|');
+        faulty(new LevelBits(), s.substring(0, at) + s.substring(at + 1), number, at);
+    }
+
+    /** The text is taken and has so many loops; the object that has it. */
+    LevelBits good(String s, int loops) {
+        LevelBits x = new LevelBits();
+        left(x, "text '" + s + "'", text(x, s), loops, 0);
+        due("fault of '" + s + "'", x.fault(), 0);
+        due("bytes behind '" + s + "'", x.bytes(), 0);
+        return x;
+    }
+
     static int number(String s, int at) {
         int n = 0;
         for (int i = at; i < at + 4; i++) {

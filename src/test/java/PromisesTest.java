@@ -200,20 +200,11 @@ public final class PromisesTest {
 
     private static void fault(LevelBits x, String s, int number, int at) {
         x.text(0);
-        CHECK.due("text '" + s + "'", Check.text(x, s), NONE);
-        CHECK.due("trouble of '" + s + "'", x.trouble(), 4);
-        CHECK.due("fault of '" + s + "'", x.fault(), number);
-        CHECK.due("where of '" + s + "'", x.where(), at);
+        CHECK.faulty(x, s, number, at);
     }
 
-    private static void fault(String s, int number, int at) {
-        fault(new LevelBits(), s, number, at);
-    }
-
-    /** The fault stands where the sign | does, which isn't of the text. */
     private static void marked(int number, String s) {
-        int at = s.indexOf('|');
-        fault(s.substring(0, at) + s.substring(at + 1), number, at);
+        CHECK.marked(number, s);
     }
 
     private static void faultsOfForm() {
