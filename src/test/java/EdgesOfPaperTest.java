@@ -186,6 +186,13 @@ public final class EdgesOfPaperTest {
             CHECK.left(x, "29 stage " + stage, x.fed(2, stage, 1000, 1), 1000, 0);
         }
         CHECK.left(x, "29 without NOISE", x.fed(1, 0, 1000, 3000), 0, 0);
+        // 250, 250, 250; 500, 750, 1000; out 1: -250, -500, -500
+        int[][] sums = {{0, 0, 0}, {250, 250, 250}, {500, 750, 1000}, {-250, -500, -500}};
+        for (int k = 0; k < 4; k++) {
+            for (int stage = 0; stage < 3; stage++) {
+                CHECK.left(x, "29 stage " + stage + " at " + k, x.fed(2, stage, 250, k), sums[k][stage], 0);
+            }
+        }
     }
 
     private static void fedRefused() {
@@ -423,6 +430,8 @@ public final class EdgesOfPaperTest {
         CHECK.left(x, "34 no RUN", x.now(2), NONE, 1);
         CHECK.left(x, "34 no clock of it", x.run(1), NOTHING, 1);
         CHECK.left(x, "34 no OUT", x.out(0), NOTHING, 1);
+        CHECK.left(x, "34 no SUM", x.sum(0), NOTHING, 1);
+        CHECK.left(x, "34 no size", x.size(0), NONE, 1);
         x.begin(0, 0);
         CHECK.left(x, "34 its REGISTER", x.now(3), 9, 0);
     }

@@ -513,6 +513,7 @@ public final class EdgesOfRunTest {
         CHECK.left(x, "19 a row cut", x.rows(6, 7, 0), 1, 0);
         CHECK.left(x, "19 a row at the begin", x.rows(7, 9, 0), 2, 0);
         CHECK.left(x, "19 a row cut ahead", x.rows(8, 9, 0), 1, 0);
+        CHECK.left(x, "19 two rows aren't one", x.rows(4, 8, 0), 2, 0);
         CHECK.left(x, "19 changes, both in it", x.rows(8, 9, 1), 1, 0);
         CHECK.left(x, "19 changes, one alone in it", x.rows(9, 9, 1), 0, 0);
         int[] wrong = {-1, 2, MOST, LEAST};
@@ -522,6 +523,10 @@ public final class EdgesOfRunTest {
         }
         LevelBits y = Check.of(EIGHT);
         CHECK.left(y, "19 no RUN", y.rows(0, 0, 0), NONE, 1);
+        LevelBits u = ran(STILL, 1, 4096);
+        CHECK.left(u, "19 rows of 199", u.rows(0, 4095, 0), 199, 0);
+        CHECK.left(u, "19 a shorter one behind a longer one", u.rows(150, 250, 0), 50, 0);
+        CHECK.left(u, "19 changes there", u.rows(150, 250, 1), 2, 0);
         LevelBits z = ran("loop l by 16 bound 9999;wave w hold 1000 for 1", 0, 4096);
         CHECK.left(z, "19 all", z.rows(0, 4095, 0), 4096, 0);
         CHECK.left(z, "19 no change", z.rows(0, 4095, 1), 0, 0);

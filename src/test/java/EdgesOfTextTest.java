@@ -21,6 +21,8 @@ public final class EdgesOfTextTest {
         smallLettersAlone();
         digitsAlone();
         marksAlone();
+        wholesAreNoWordsNorMarks();
+        wordsAreNoMarks();
         touchingTokens();
         linesArePartedByOneMark();
         upToFourLoops();
@@ -181,6 +183,37 @@ public final class EdgesOfTextTest {
             CHECK.due("I parts pieces " + n, Check.text(new LevelBits(), t), n == ',' ? 0 : NONE);
             boolean taken = n == '-' || n == ' ' || n >= '0' && n <= '9';
             CHECK.due("I ahead of an INT " + n, Check.text(new LevelBits(), u), taken ? 0 : NONE);
+        }
+    }
+
+    /** Each WHOLE where a WORD or a mark is due, and where it may stand itself. */
+    private static void wholesAreNoWordsNorMarks() {
+        LevelBits x = new LevelBits();
+        for (int n = 0; n < 10000; n++) {
+            if (n % 20 == 0) {
+                x = new LevelBits();
+            }
+            CHECK.faulty(x, "loop a " + n + " 1 bound 1000", 1, 7);
+            CHECK.faulty(x, "wave a hold 1 for 1 " + n + " hold 1 for 1", 1, 20);
+            boolean taken = n <= 1000;
+            CHECK.due("I hold " + n, Check.text(x, "wave a hold " + n + " for 1"), taken ? 0 : NONE);
+            if (taken) {
+                CHECK.due("I level " + n, x.level(0, 0), n);
+            }
+        }
+    }
+
+    /** Each WORD of one or two letters where a mark is due. */
+    private static void wordsAreNoMarks() {
+        LevelBits x = new LevelBits();
+        for (int n = 0; n < 26 * 27; n++) {
+            if (n % 20 == 0) {
+                x = new LevelBits();
+            }
+            String word = (n >= 26 ? "" + (char) ('a' + n / 26 - 1) : "") + (char) ('a' + n % 26);
+            CHECK.faulty(x, "wave a hold 1 for 1 " + word + " hold 1 for 1", 1, 20);
+            CHECK.faulty(x, "wave a hold 1 for 1 " + word + " wave b hold 1 for 1", 1, 20);
+            CHECK.faulty(x, "wave a hold " + word + " 1 for 1", 1, 12);
         }
     }
 
@@ -621,6 +654,8 @@ public final class EdgesOfTextTest {
         CHECK.left(x, "3 no WAVE 1", x.wave(1, 0), NOTHING, 1);
         CHECK.left(x, "3 no RUN", x.now(2), NONE, 1);
         CHECK.left(x, "3 no OUT", x.out(0), NOTHING, 1);
+        CHECK.left(x, "3 no SUM", x.sum(0), NOTHING, 1);
+        CHECK.left(x, "3 no size", x.size(0), NONE, 1);
         CHECK.left(x, "3 no clock", x.run(1), NOTHING, 1);
         CHECK.left(x, "3 no IMAGE 0", x.back(0), false, 1);
         CHECK.left(x, "3 no IMAGE 1", x.back(1), false, 1);
