@@ -629,6 +629,12 @@ public final class EdgesOfRunTest {
         // -4,093 by 4,095: nothing in common
         CHECK.left(x, "23 lowest already", x.mean(0, 4094, 0), -4093, 0);
         CHECK.left(x, "23 lowest already below", x.mean(0, 4094, 1), 4095, 0);
+        LevelBits y = ran(STILL, 1, 700);
+        // 2 less 205 by 207: nothing in common; 3 less 600 by 603: 3
+        CHECK.left(y, "23 -203 by 207", y.mean(0, 206, 0), -203, 0);
+        CHECK.left(y, "23 -203 by 207 below", y.mean(0, 206, 1), 207, 0);
+        CHECK.left(y, "23 -597 by 603", y.mean(1, 603, 0), -199, 0);
+        CHECK.left(y, "23 -597 by 603 below", y.mean(1, 603, 1), 201, 0);
         int[] wrong = {-1, 2, MOST, LEAST};
         for (int what : wrong) {
             CHECK.left(x, "23 what " + what, x.mean(0, 7, what), NOTHING, 1);

@@ -186,15 +186,20 @@ public final class EdgesOfTextTest {
         }
     }
 
-    /** Each WHOLE where a WORD or a mark is due, and where it may stand itself. */
+    /** Each WHOLE, and one digit more, where a WORD or a mark is due, and where a WHOLE may stand itself. */
     private static void wholesAreNoWordsNorMarks() {
         LevelBits x = new LevelBits();
         for (int n = 0; n < 10000; n++) {
-            if (n % 20 == 0) {
+            if (n % 6 == 0) {
                 x = new LevelBits();
             }
+            String five = (100000 + 10 * n + "").substring(1);
             CHECK.faulty(x, "loop a " + n + " 1 bound 1000", 1, 7);
             CHECK.faulty(x, "wave a hold 1 for 1 " + n + " hold 1 for 1", 1, 20);
+            CHECK.faulty(x, "wave a hold 1 for 1 " + n + " wave b hold 1 for 1", 1, 20);
+            CHECK.faulty(x, "wave a hold 1 for 1 " + five + " hold 1 for 1", 1, 20);
+            CHECK.faulty(x, "wave a hold 1 for 1 " + five + " wave b hold 1 for 1", 1, 20);
+            CHECK.faulty(x, "wave a hold " + five + " 1 for 1", 1, 12);
             boolean taken = n <= 1000;
             CHECK.due("I hold " + n, Check.text(x, "wave a hold " + n + " for 1"), taken ? 0 : NONE);
             if (taken) {
