@@ -34,16 +34,14 @@ public final class LevelBits {
     private static final int STEADY_CLOCKS = 1000;
     private static final int STEADY_STEP = 50;
 
-    private final byte[] tape = new byte[MOST_BYTES];
     private final Run run = new Run();
     private final Image[] images = {new Image(), new Image()};
     private final Weights weights = new Weights();
     private final Cycle found = new Cycle();
     private final Core one = new Core();
     private final Core two = new Core();
+    private final Reader reader = new Reader();
     private Plan plan = new Plan();
-    private Plan spare = new Plan();
-    private final Reader reader = new Reader(tape, spare);
     private boolean hasText;
     private int taped;
     private int seeded = 1;
@@ -73,14 +71,14 @@ public final class LevelBits {
             return refused(BAD_NUMBER, NONE);
         }
         taped = 0;
-        boolean read = reader.readText(n, spare);
+        boolean read = reader.readText(n);
         latestFault = reader.fault;
         if (!read) {
             refused(FAULTY, NONE);
             place = reader.place;
             return NONE;
         }
-        takeSpare();
+        takePlan();
         return granted(plan.loops);
     }
 
@@ -450,17 +448,17 @@ public final class LevelBits {
     }
 
     private void tapeNumber(int number) {
-        for (int shift = 24; shift >= 0 && taped < tape.length; shift -= 8) {
-            tape[taped] = (byte) (number >> shift);
+        for (int shift = 24; shift >= 0 && taped < reader.tape.length; shift -= 8) {
+            reader.tape[taped] = (byte) (number >> shift);
             taped++;
         }
     }
 
     /** The two plans change places, so that a text that is refused never touches the one that stands. */
-    private void takeSpare() {
+    private void takePlan() {
         Plan old = plan;
-        plan = spare;
-        spare = old;
+        plan = reader.plan;
+        reader.plan = old;
         hasText = true;
         run.going = false;
         for (int k = 0; k < images.length; k++) {
@@ -751,7 +749,7 @@ public final class LevelBits {
         }
     }
 
-    /** Reads a TEXT token by token and stops at the first fault; each of its steps is false at a fault. */
+    /** THE TAPE, read token by token up to the first fault; each of the steps is false at a fault. */
     private static final class Reader {
         private static final int END = 0;
         private static final int WORD = 1;
@@ -764,8 +762,9 @@ public final class LevelBits {
         private static final int AGAIN = 3;
         private static final int TOO_MANY = 4;
 
-        private final byte[] tape;
-        private Plan plan;
+        private final byte[] tape = new byte[MOST_BYTES];
+        /** What is read goes there. */
+        private Plan plan = new Plan();
         private int end;
         private int at;
         /** The token that comes next: its kind, its first byte's place, its word, whole or mark. */
@@ -777,13 +776,7 @@ public final class LevelBits {
         private int fault;
         private int place;
 
-        private Reader(byte[] tape, Plan plan) {
-            this.tape = tape;
-            this.plan = plan;
-        }
-
-        private boolean readText(int n, Plan into) {
-            plan = into;
+        private boolean readText(int n) {
             plan.clear();
             end = Math.min(n, tape.length);
             at = 0;

@@ -83,6 +83,10 @@ public final class FaceTest {
             for (Field f : c.getDeclaredFields()) {
                 yes(f + " is final if static", !Modifier.isStatic(f.getModifiers()) || Modifier.isFinal(f.getModifiers()));
             }
+            for (Constructor<?> made : c.getDeclaredConstructors()) {
+                yes(made + " gets nothing of the object that is being made",
+                    made.isSynthetic() || made.getParameterCount() == 0);
+            }
         }
     }
 
